@@ -966,7 +966,8 @@ public final class BeaconWall {
         }
 
         int cell(int i, int column) {
-            return has(i) && isWithin(column, 0, WIDTH - 1) ? cells[i * WIDTH + column] : NONE;
+            boolean isThere = isWithin(i, 0, count - 1) && isWithin(column, 0, WIDTH - 1);
+            return isThere ? cells[i * WIDTH + column] : NONE;
         }
 
         boolean add(int a, int b, int c, int d) {
@@ -1026,10 +1027,12 @@ public final class BeaconWall {
 
         private final int[] bytes = new int[LENGTH];
         private int length = 0;
-        private int next = 0;
+        /** The TOKENS, the last one OVER: each is at least a byte long. */
+        private final int[] kinds = new int[LENGTH + 1];
+        private final int[] starts = new int[LENGTH + 1];
+        private final int[] values = new int[LENGTH + 1];
+        private int token = 0;
         private int kind = OVER;
-        private int start = 0;
-        private int value = 0;
         private int faultKind = 0;
         private int faultPlace = NONE;
         private final Page page = new Page();
@@ -1065,44 +1068,65 @@ public final class BeaconWall {
         void open() {
             faultKind = 0;
             faultPlace = NONE;
-            next = 0;
             page.clear();
             lines.cutTo(0);
-            advance();
+            findTokens();
+            token = 0;
+            kind = kinds[0];
         }
 
         // ---- tokens
 
-        private void advance() {
-            while (next < length && isBlank(bytes[next])) {
-                next++;
-            }
-            start = next;
-            if (next >= length) {
-                kind = OVER;
-            } else if (isLetter(bytes[next])) {
-                takeWord();
-            } else if (isDigit(bytes[next])) {
-                takeDigits();
-            } else {
-                kind = kindOfSign(bytes[next]);
-                next++;
-            }
-        }
-
-        private void takeWord() {
-            while (next < length && isLetter(bytes[next])) {
-                next++;
-            }
-            kind = BAD;
-            for (int word = 0; word < WORD_COUNT && next - start <= WORD_WIDTH; word++) {
-                if (spells(word)) {
-                    kind = ANY + word;
+        private void findTokens() {
+            int count = 0;
+            int place = 0;
+            for (int i = 0; i < LENGTH && place < length; i++) {
+                if (isBlank(bytes[place])) {
+                    place++;
+                } else {
+                    int next = behindToken(place);
+                    noteToken(count, place, next);
+                    count++;
+                    place = next;
                 }
             }
+            kinds[count] = OVER;
+            starts[count] = length;
         }
 
-        private boolean spells(int word) {
+        private int behindToken(int start) {
+            int next = start + 1;
+            boolean isWord = isLetter(bytes[start]);
+            boolean isNumber = isDigit(bytes[start]);
+            while (next < length && (isWord && isLetter(bytes[next]) || isNumber && isDigit(bytes[next]))) {
+                next++;
+            }
+            return next;
+        }
+
+        private void noteToken(int i, int start, int next) {
+            starts[i] = start;
+            values[i] = 0;
+            if (isLetter(bytes[start])) {
+                kinds[i] = kindOfWord(start, next);
+            } else if (isDigit(bytes[start])) {
+                kinds[i] = next - start <= 4 ? NUMBER : BAD;
+                values[i] = kinds[i] == NUMBER ? valueOf(start, next) : 0;
+            } else {
+                kinds[i] = kindOfSign(bytes[start]);
+            }
+        }
+
+        private int kindOfWord(int start, int next) {
+            for (int word = 0; word < WORD_COUNT && next - start < WORD_WIDTH; word++) {
+                if (spells(word, start, next)) {
+                    return ANY + word;
+                }
+            }
+            return BAD;
+        }
+
+        private boolean spells(int word, int start, int next) {
             for (int i = 0; i < WORD_WIDTH; i++) {
                 int letter = start + i < next ? bytes[start + i] : ' ';
                 if (WORDS.charAt(word * WORD_WIDTH + i) != letter) {
@@ -1112,14 +1136,12 @@ public final class BeaconWall {
             return true;
         }
 
-        private void takeDigits() {
-            value = 0;
-            while (next < length && isDigit(bytes[next])) {
-                // More than four digits are no NUMBER; what they would count to is never asked.
-                value = Math.min(value * 10 + bytes[next] - '0', 99999);
-                next++;
+        private int valueOf(int start, int next) {
+            int value = 0;
+            for (int i = start; i < next; i++) {
+                value = value * 10 + bytes[i] - '0';
             }
-            kind = next - start <= 4 ? NUMBER : BAD;
+            return value;
         }
 
         private static int kindOfSign(int sign) {
@@ -1149,10 +1171,17 @@ public final class BeaconWall {
 
         // ---- what can stand where
 
+        private void advance() {
+            if (kind != OVER) {
+                token++;
+                kind = kinds[token];
+            }
+        }
+
         /** Always false, so that who finds a FAULT can answer with it. */
         private boolean refuse(int what) {
             faultKind = what;
-            faultPlace = start;
+            faultPlace = starts[token];
             return false;
         }
 
@@ -1170,11 +1199,11 @@ public final class BeaconWall {
                 refuse(MISPLACED);
                 return NONE;
             }
-            if (!isWithin(value, least, most)) {
+            if (!isWithin(values[token], least, most)) {
                 refuse(BEYOND);
                 return NONE;
             }
-            return value;
+            return values[token];
         }
 
         private int passNumber(int least, int most) {
@@ -1204,7 +1233,7 @@ public final class BeaconWall {
             if (right == NONE || !pass(ARROW)) {
                 return false;
             }
-            int mind = passMind();
+            int mind = passOr(SAME_WORD, SAME);
             if (mind == NONE || !pass(SEMICOLON)) {
                 return false;
             }
@@ -1214,7 +1243,7 @@ public final class BeaconWall {
 
         /** What can't begin a RULE is a lesser FAULT at the same place than one line too many. */
         private boolean canBeginRule() {
-            return isWithin(kind, ANY, NO_KEEPER) || kind == NUMBER && value <= LIT;
+            return isWithin(kind, ANY, NO_KEEPER) || kind == NUMBER && values[token] <= LIT;
         }
 
         /** The set of what fits (a bit for each thing seen), or NONE with a FAULT. */
@@ -1229,7 +1258,7 @@ public final class BeaconWall {
             }
             int set = 0;
             for (int i = 0; i < LENGTH; i++) {
-                int seen = passSeen();
+                int seen = passOr(NO_KEEPER, NOBODY);
                 if (seen == NONE) {
                     return NONE;
                 }
@@ -1242,20 +1271,13 @@ public final class BeaconWall {
             return NONE;
         }
 
-        private int passSeen() {
-            if (kind == NO_KEEPER) {
+        /** A MIND, or what the word stands for that may be in its place; NONE with a FAULT. */
+        private int passOr(int word, int meaning) {
+            int mind = kind == word ? meaning : numberHere(0, LIT);
+            if (mind != NONE) {
                 advance();
-                return NOBODY;
             }
-            return passNumber(0, LIT);
-        }
-
-        private int passMind() {
-            if (kind == SAME_WORD) {
-                advance();
-                return SAME;
-            }
-            return passNumber(0, LIT);
+            return mind;
         }
 
         boolean readPlan() {
@@ -1651,7 +1673,7 @@ public final class BeaconWall {
             for (int i = 0; i < keepers; i++) {
                 int own = minds[i];
                 int right = i + 1 < keepers ? minds[i + 1] : behindLast;
-                int mind = i == deaf ? own : said[caseOf(own, left, right)];
+                int mind = i == deaf ? own : said[(own * SEEN + left) * SEEN + right];
                 minds[i] = mind;
                 litNow += mind == LIT ? 1 : 0;
                 changedNow += mind != own ? 1 : 0;
