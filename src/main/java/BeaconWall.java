@@ -618,16 +618,16 @@ public final class BeaconWall {
         for (int i = 0; i < wall.keepers && again; i++) {
             again = false;
             for (int keeper = 0; keeper < wall.keepers; keeper++) {
-                boolean sooner = !wall.isDeaf(keeper)
-                    && (hearsFrom(keeper, wall.keeperSeenLeft(keeper)) | hearsFrom(keeper, wall.keeperSeenRight(keeper)));
-                again = again || sooner;
+                boolean byLeft = hearsFrom(keeper, wall.keeperSeenLeft(keeper));
+                boolean byRight = hearsFrom(keeper, wall.keeperSeenRight(keeper));
+                again = again || byLeft || byRight;
             }
         }
     }
 
     /** Whether the keeper knows it sooner by the one he sees; knownBehind is so then. */
     private boolean hearsFrom(int keeper, int seen) {
-        if (seen == NONE || knownBehind[seen] == NONE) {
+        if (seen == NONE || knownBehind[seen] == NONE || state.wall.isDeaf(keeper)) {
             return false;
         }
         int behind = knownBehind[seen] + (state.wall.isLate(keeper) ? 2 : 1);

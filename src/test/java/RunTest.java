@@ -66,7 +66,14 @@ public final class RunTest {
         BeaconWall x = with(CLOCK + "4 3 any>7;");
         CHECK.due("as it is then", x.picture(2, 0, 27, 0), x.picture(2, 0, 26, 0));
         CHECK.due("as it is then", x.picture(2, 0, 116, 0), 3);
-        CHECK.due("mark at the last breath", x.mark(2, 0, 4, 1), 24);
+        x = with(CLOCK + "4 2 any>5;");
+        CHECK.due("mark at the last breath", x.mark(2, 0, 5, 1), 26);
+        CHECK.due("crowd at the last breath", x.crowd(2, 0, 5, 2), 2);
+        CHECK.due("used at the last breath", x.used(2, 0), 11);
+        x = with(CLOCK + "4 3 any>5;");
+        CHECK.due("mark a breath later", x.mark(2, 0, 5, 1), -1);
+        CHECK.due("crowd a breath later", x.crowd(2, 0, 5, 2), 1);
+        CHECK.due("used a breath later", x.used(2, 1), 10);
         Check.feed(x, "keeper 1 below 0;");
         x.text(5);
         CHECK.due("a tree: a breath too late", x.trees(0), -1);

@@ -10,6 +10,7 @@ public final class TextTest {
         tooManyLines();
         plans();
         trees();
+        fullTape();
         faultStays();
         firstThatFits();
         quiet();
@@ -168,6 +169,14 @@ public final class TextTest {
         CHECK.refused(x, 5, "keeper 3 under 1;", 1, 9);
         CHECK.refused(x, 5, "below 3 keeper 4;", 1, 0);
         CHECK.due("TREE stays", x.look(13), 2);
+    }
+
+    private static void fullTape() {
+        BeaconWall x = new BeaconWall();
+        CHECK.refused(x, 0, ";".repeat(400), 1, 0);
+        CHECK.refused(x, 0, "0" + ",0".repeat(199) + ",", 1, 400);
+        CHECK.tell(x, 0, "0" + ",0".repeat(196) + " 0 0>1;", 1);
+        CHECK.tell(x, 0, " ".repeat(400), 0);
     }
 
     private static void faultStays() {

@@ -8,6 +8,10 @@ public final class TrialTest {
     /** GOOD for every length; its rules are asked first at the lengths 4, 2, 3, 1, 1. */
     private static final String LINES = "0 0 0>2;0 1 any>2;0 0 end>2;1 any any>2;2 any any>7;";
 
+    /** Keeper 0 counts six breaths, keeper 1 how often. */
+    private static final String CLOCK = "1 end any>2;2 end any>3;3 end any>4;4 end any>5;5 end any>6;6 end any>1;"
+        + "0 6 any>1;1 6 any>2;2 6 any>3;3 6 any>4;";
+
     public static void main(String[] args) {
         worn();
         mends();
@@ -47,6 +51,9 @@ public final class TrialTest {
         Check.feed(x, "any any any>1;");
         x.text(0);
         CHECK.due("a later rule takes its place", x.worn(0, 24), -1);
+        x = with(3, "0 0 0>1;".repeat(23) + ALL);
+        CHECK.due("the last rule of all", x.worn(95, 24), 1);
+        CHECK.due("the last rule of all", x.mends(95, 3), 1 << 7);
     }
 
     private static void mends() {
@@ -119,6 +126,15 @@ public final class TrialTest {
         Check.feed(x, "1 any any>2;2 any any>3;3 any any>4;4 end end>5;");
         x.text(0);
         CHECK.due("behind four", x.alike(1, 1), 4);
+        x = with(0, CLOCK);
+        x.keeps();
+        Check.feed(x, "4 2 end>5;");
+        x.text(1);
+        CHECK.due("at the last breath", x.alike(2, 1), 26);
+        CHECK.due("the second keeper", x.alike(2, 2), 1);
+        Check.feed(x, "4 3 end>5;");
+        x.text(1);
+        CHECK.due("a breath later", x.alike(2, 0), -1);
     }
 
     private static void enough() {
@@ -300,6 +316,8 @@ public final class TrialTest {
         lights(4, 0, 2, 9);
         lights(5, 0, 2, 9);
         lights(6, 0, 2, 18);
+        lights(5, 7, 1, 16);
+        lights(8, 31, 1, 64);
         lights(12, 4095, 0, 0);
         lights(12, 4096, -1, -1);
         lights(3, -1, -1, -1);

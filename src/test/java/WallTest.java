@@ -448,6 +448,35 @@ public final class WallTest {
         CHECK.due("seven long", x.round(1), 7);
         x.breaths(1);
         CHECK.due("from its second breath on", x.round(0), 7);
+        longRound();
+        oneOfMany();
+    }
+
+    /** Five keepers count together: 4 times 5 times 5 times 5 times 4 breaths. */
+    private static void longRound() {
+        BeaconWall x = new BeaconWall();
+        CHECK.tell(x, 0, "0 end any>1;1 end any>2;2 end any>6;6 end any>0;0 6 end>1;1 6 end>2;2 6 end>3;3 6 end>0;"
+            + "0 6 any>1;1 6 any>2;2 6 any>3;3 6 any>4;4 6 any>6;6 any any>0;", 14);
+        x.wall(5, false);
+        // What the first breaths are like does not come again.
+        x.breaths(3);
+        CHECK.due("a breath too late", x.round(0), -1);
+        CHECK.due("a breath too late", x.round(1), -1);
+        x.breaths(1);
+        CHECK.due("the last that is looked at", x.round(0), 2000);
+        CHECK.due("the last that is looked at", x.round(1), 2000);
+    }
+
+    /** Only one of 32 keepers goes on: none may be overlooked. */
+    private static void oneOfMany() {
+        BeaconWall x = new BeaconWall();
+        CHECK.tell(x, 0, "1 any any>2;2 any any>4;4 any any>6;6 any any>1;", 4);
+        for (int i = 0; i < 32; i++) {
+            x.wall(32, i % 2 == 0);
+            x.act(0, i, 1);
+            CHECK.due("keeper " + i + " comes round", x.round(0), 5);
+            CHECK.due("keeper " + i + " comes round", x.round(1), 4);
+        }
     }
 
     private static void hearing() {
