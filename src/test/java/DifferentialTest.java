@@ -1,6 +1,6 @@
 import java.util.Random;
 
-/** Long runs of calls by chance (the same ones each time), each answer compared with that of Naive. */
+/** Runs of up to 512 calls by chance (the same ones each time), each answer compared with that of Naive. */
 public final class DifferentialTest {
     private static final Check CHECK = new Check("DifferentialTest");
     private static final String[] PATTERNS = {"any", "any", "any", "0", "1", "2", "3", "7", "end", "not end", "not 0",
@@ -11,6 +11,7 @@ public final class DifferentialTest {
     private final BeaconWall x = new BeaconWall();
     private final Naive y = new Naive();
     private final int run;
+    private int calls = 0;
 
     private DifferentialTest(int run) {
         this.run = run;
@@ -18,14 +19,15 @@ public final class DifferentialTest {
     }
 
     public static void main(String[] args) {
-        int runs = args.length > 0 ? Integer.parseInt(args[0]) : 60;
+        int runs = args.length > 0 ? Integer.parseInt(args[0]) : 300;
         for (int run = 0; run < runs; run++) {
-            new DifferentialTest(run).go(450);
+            new DifferentialTest(run).go();
         }
         CHECK.finish();
     }
 
     private void due(String call, long got, long want) {
+        calls++;
         CHECK.due("run " + run + ": " + call, got, want);
     }
 
@@ -52,11 +54,14 @@ public final class DifferentialTest {
         return least + upTo(Math.max(0, most - least));
     }
 
-    private void go(int calls) {
-        for (int i = 0; i < calls; i++) {
+    /** An object is promised for 512 calls: half of the runs spend the last of them on all that can be seen. */
+    private void go() {
+        boolean looksAtAll = run % 2 == 0;
+        int most = looksAtAll ? 220 : 480;
+        while (calls < most) {
             int dice = upTo(99);
             if (dice < 12) {
-                i += tell();
+                tell();
             } else if (dice < 40) {
                 live();
             } else if (dice < 60) {
@@ -67,39 +72,39 @@ public final class DifferentialTest {
                 wonder();
             }
         }
+        if (looksAtAll) {
+            lookAtAll();
+        }
+        CHECK.due("calls of run " + run + ", " + calls + ", are 512 at most", calls <= 512, true);
     }
 
     // ---- texts
 
-    private int tell() {
+    private void tell() {
         int k = upTo(30) == 0 ? about(0, 5) : new int[] {0, 0, 0, 1, 2, 3, 4, 4, 5}[upTo(8)];
         String text = k == 4 ? plan() : k == 5 ? tree() : page();
         if (upTo(3) == 0) {
             text = spoil(text);
         }
-        int calls = feed(text);
+        feed(text);
         due("text(" + k + ") of " + text, x.text(k), y.text(k));
         due("fault(0) of " + text, x.fault(0), y.fault(0));
         due("fault(1) of " + text, x.fault(1), y.fault(1));
-        return calls + 3;
     }
 
-    private int feed(String text) {
+    private void feed(String text) {
         StringBuilder padded = new StringBuilder(text);
         while (padded.length() % 20 != 0) {
             padded.append('x');
         }
-        int calls = 1;
         for (int i = 0; i < padded.length(); i += 20) {
             int[] w = new int[5];
             for (int j = 0; j < 5; j++) {
                 w[j] = Check.word(padded, i + 4 * j);
             }
             due("feed", x.feed(w[0], w[1], w[2], w[3], w[4]), y.feed(w[0], w[1], w[2], w[3], w[4]));
-            calls++;
         }
         due("end(" + text.length() + ")", x.end(text.length()), y.end(text.length()));
-        return calls;
     }
 
     private String page() {
@@ -188,7 +193,7 @@ public final class DifferentialTest {
         }
     }
 
-    private void look() {
+    private void lookAtAll() {
         for (int what = -1; what <= 16; what++) {
             due("look(" + what + ")", x.look(what), y.look(what));
         }
@@ -197,15 +202,20 @@ public final class DifferentialTest {
                 due("of(" + i + ", " + what + ")", x.of(i, what), y.of(i, what));
             }
         }
-        int keeper = about(0, 31);
-        int what = about(0, 6);
-        due("of(" + keeper + ", " + what + ")", x.of(keeper, what), y.of(keeper, what));
-        for (int i = 0; i < 5; i++) {
-            int line = i == 0 ? y.look(7) - 1 : about(0, 149);
+    }
+
+    private void look() {
+        for (int i = 0; i < 3; i++) {
+            int kind = about(0, 15);
+            due("look(" + kind + ")", x.look(kind), y.look(kind));
+            int keeper = about(0, Math.max(0, y.keepers() - 1));
+            int what = about(0, 6);
+            due("of(" + keeper + ", " + what + ")", x.of(keeper, what), y.of(keeper, what));
+            int line = i == 0 ? y.look(7) - 1 : about(0, Math.max(0, y.look(7) - 1));
             int column = about(0, 3);
             due("log(" + line + ", " + column + ")", x.log(line, column), y.log(line, column));
         }
-        for (int i = 0; i < 5; i++) {
+        for (int i = 0; i < 2; i++) {
             int own = about(0, 7);
             int left = about(0, 8);
             int right = about(0, 8);
